@@ -762,7 +762,7 @@ public final class SelfishJunction {
 
         int bestOf(Play play, int player) {
             int best = play.chosen[player];
-            int least = ownCost(play, player);
+            int least = costAlone(play, player, best);
             for (int way = 0; way < players[player].wayCount; way++) {
                 if (isOpen(play, player, way)) {
                     int cost = costAlone(play, player, way);
