@@ -15,6 +15,7 @@ public final class SelfishJunction {
     private static final int MOST_PLAYS = 1000;
     private static final int MOST_ROUNDS = 50;
     private static final int MOST_CROWD = 999;
+    private static final long MOST_REGRET = 2147483647L;
     private static final long SEED_FACTOR = 48271L;
     private static final long SEED_MODULUS = 2147483647L;
 
@@ -321,7 +322,7 @@ public final class SelfishJunction {
 
     public int getRegret(int player) throws IndexOutOfBoundsException {
         checkPlayer(player);
-        return (int) Math.min(Integer.MAX_VALUE, board.greatestRegret(now, player));
+        return (int) Math.min(MOST_REGRET, board.greatestRegret(now, player));
     }
 
     public int setSeed(int z) throws IllegalArgumentException {

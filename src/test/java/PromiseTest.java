@@ -62,112 +62,6 @@ public final class PromiseTest {
         Check.due(what, got, want);
     }
 
-    /** Four resources, one of each kind; player 0 light, 1 heavier, 2 without ways. */
-    private static SelfishJunction mixed() {
-        SelfishJunction x = new SelfishJunction();
-        x.addResource('l', 2, 1);
-        x.addResource('q', 1, 3);
-        x.addResource('s', 5, 0);
-        x.addResource('c', 9, 7);
-        x.addPlayer(1, 2);
-        x.addPlayer(2, 0);
-        x.addPlayer(3, 1);
-        x.addWay(0, 1);
-        x.addWay(0, 2);
-        x.addWay(0, 12);
-        x.addWay(1, 1);
-        x.addWay(1, 4);
-        return x;
-    }
-
-    /** Two ways beside each other, the resources 0 and 1, for so many players of the weight 1. */
-    private static SelfishJunction parallel(int players, char kind0, int a0, int b0, char kind1, int a1, int b1) {
-        SelfishJunction x = new SelfishJunction();
-        x.addResource(kind0, a0, b0);
-        x.addResource(kind1, a1, b1);
-        for (int p = 0; p < players; p++) {
-            x.addPlayer(1, 1);
-            x.addWay(p, 1);
-            x.addWay(p, 2);
-        }
-        return x;
-    }
-
-    private static SelfishJunction even(int players) {
-        return parallel(players, 'l', 10, 0, 'l', 10, 0);
-    }
-
-    /** One way always costs 20, the other 10 for each on it: three of the four plays are at rest. */
-    private static SelfishJunction pigou() {
-        return parallel(2, 'c', 0, 20, 'l', 10, 0);
-    }
-
-    /** Four travellers, and the road 4 whose closing helps all. */
-    private static SelfishJunction braess() {
-        SelfishJunction x = new SelfishJunction();
-        x.addRoad(0, 1, 'l', 10, 0);
-        x.addRoad(1, 3, 'c', 0, 50);
-        x.addRoad(0, 2, 'c', 0, 50);
-        x.addRoad(2, 3, 'l', 10, 0);
-        x.addRoad(1, 2, 'c', 0, 10);
-        for (int p = 0; p < 4; p++) {
-            x.addTraveller(0, 3, 1, 1);
-        }
-        return x;
-    }
-
-    /** No play is at rest, so that all changes go round. */
-    private static SelfishJunction restless() {
-        SelfishJunction x = new SelfishJunction();
-        x.addResource('c', 10, 35);
-        x.addResource('c', 4, 23);
-        x.addResource('q', 11, 7);
-        x.addResource('s', 4, 28);
-        x.addPlayer(2, 0);
-        x.addPlayer(2, 0);
-        x.addPlayer(1, 0);
-        x.addWay(0, 11);
-        x.addWay(0, 5);
-        x.addWay(1, 7);
-        x.addWay(1, 6);
-        x.addWay(2, 7);
-        x.addWay(2, 8);
-        return x;
-    }
-
-    /** There is a ring, but from the first play only a play at rest can be come to. */
-    private static SelfishJunction ringElsewhere() {
-        SelfishJunction x = new SelfishJunction();
-        x.addResource('q', 8, 15);
-        x.addResource('l', 18, 10);
-        x.addResource('q', 19, 21);
-        x.addResource('s', 4, 35);
-        x.addPlayer(3, 0);
-        x.addPlayer(1, 0);
-        x.addWay(0, 4);
-        x.addWay(0, 10);
-        x.addWay(1, 2);
-        x.addWay(1, 7);
-        x.addWay(1, 8);
-        return x;
-    }
-
-    /** Exactly 1000 plays: five players with 5, 5, 5, 4 and 2 ways, and one with a single way. */
-    private static SelfishJunction thousand() {
-        SelfishJunction x = new SelfishJunction();
-        x.addResource('l', 1, 1);
-        x.addResource('l', 2, 2);
-        x.addResource('l', 3, 3);
-        int[] ways = {5, 5, 5, 4, 2, 1};
-        for (int p = 0; p < 6; p++) {
-            x.addPlayer(1, 0);
-            for (int bits = 1; bits <= ways[p]; bits++) {
-                x.addWay(p, bits);
-            }
-        }
-        return x;
-    }
-
     private static long sum(long... parts) {
         long sum = 7;
         for (long part : parts) {
@@ -340,7 +234,7 @@ public final class PromiseTest {
     }
 
     private static void countAndGetWays() {
-        SelfishJunction x = mixed();
+        SelfishJunction x = Junctions.mixed();
         due("ways of 0", x.countWays(0), 3);
         due("ways of 2", x.countWays(2), 0);
         due("a way", x.getWay(0, 2), 12);
@@ -354,7 +248,7 @@ public final class PromiseTest {
     }
 
     private static void chooseAndGetChosen() {
-        SelfishJunction x = mixed();
+        SelfishJunction x = Junctions.mixed();
         due("choose", x.choose(0, 2), 0);
         due("chosen", x.getChosen(0), 2);
         due("the same again", x.choose(0, 2), 2);
@@ -375,7 +269,7 @@ public final class PromiseTest {
     }
 
     private static void loads() {
-        SelfishJunction x = mixed();
+        SelfishJunction x = Junctions.mixed();
         due("both weigh on it", x.getLoad(0), 3);
         due("nobody on it", x.getLoad(1), 0);
         x.choose(1, 1);
@@ -411,7 +305,7 @@ public final class PromiseTest {
     }
 
     private static void costs() {
-        SelfishJunction x = mixed();
+        SelfishJunction x = Junctions.mixed();
         due("cost of 0", x.getCost(0), 7);
         due("cost of 1, not by weight", x.getCost(1), 7);
         due("cost without ways", x.getCost(2), 0);
@@ -437,7 +331,7 @@ public final class PromiseTest {
     }
 
     private static void totals() {
-        SelfishJunction x = mixed();
+        SelfishJunction x = Junctions.mixed();
         due("total by weight", x.getTotal(), 21);
         x.setToll(0, 9);
         due("tolls aside", x.getTotal(), 21);
@@ -446,7 +340,7 @@ public final class PromiseTest {
     }
 
     private static void setToll() {
-        SelfishJunction x = mixed();
+        SelfishJunction x = Junctions.mixed();
         due("the first toll", x.setToll(3, 9999), 0);
         due("the toll before", x.setToll(3, 0), 9999);
         Check.thrown("no such resource", INDEX, () -> x.setToll(4, -1));
@@ -457,7 +351,7 @@ public final class PromiseTest {
     }
 
     private static void margins() {
-        SelfishJunction x = mixed();
+        SelfishJunction x = Junctions.mixed();
         due("a margin", x.getMargin(0), 2 * (7 - 5));
         due("by a load of 0", x.getMargin(1), 0);
         x.choose(1, 1);
@@ -484,7 +378,7 @@ public final class PromiseTest {
     }
 
     private static void setMind() {
-        SelfishJunction x = mixed();
+        SelfishJunction x = Junctions.mixed();
         due("the first mind", x.setMind(0, 9), 2);
         due("the mind before", x.setMind(0, 0), 9);
         x.setToll(0, 100);
@@ -497,7 +391,7 @@ public final class PromiseTest {
     }
 
     private static void lead() {
-        SelfishJunction x = mixed();
+        SelfishJunction x = Junctions.mixed();
         due("not led at first", x.lead(0, true), false);
         due("led", x.lead(0, true), true);
         due("nobody is asked who gains", x.isRest(), true);
@@ -511,7 +405,7 @@ public final class PromiseTest {
     }
 
     private static void close() {
-        SelfishJunction x = mixed();
+        SelfishJunction x = Junctions.mixed();
         due("open at first", x.close(3, true), false);
         due("closed already", x.close(3, true), true);
         due("opened", x.close(3, false), true);
@@ -551,7 +445,7 @@ public final class PromiseTest {
     }
 
     private static void bestWay() {
-        SelfishJunction x = mixed();
+        SelfishJunction x = Junctions.mixed();
         due("a better way", x.bestWay(0), 1);
         due("its own way", x.bestWay(1), 0);
         x.close(1, true);
@@ -573,7 +467,7 @@ public final class PromiseTest {
     }
 
     private static void improve() {
-        SelfishJunction x = mixed();
+        SelfishJunction x = Junctions.mixed();
         due("a gain", x.improve(0), 3);
         due("the way then", x.getChosen(0), 1);
         due("it stays", x.improve(0), 0);
@@ -586,7 +480,7 @@ public final class PromiseTest {
     }
 
     private static void restAndGreatestGain() {
-        SelfishJunction x = mixed();
+        SelfishJunction x = Junctions.mixed();
         due("not at rest", x.isRest(), false);
         due("the only gain", x.greatestGain(), 3);
         x.choose(1, 1);
@@ -598,7 +492,7 @@ public final class PromiseTest {
     }
 
     private static void runInTurn() {
-        SelfishJunction x = even(5);
+        SelfishJunction x = Junctions.even(5);
         due("as many as told", x.run('r', 1), 1);
         due("the first one", x.getChosen(0), 1);
         due("until rest", x.run('r', 200), 1);
@@ -612,7 +506,7 @@ public final class PromiseTest {
         y.run('r', 1);
         due("a run of its own", y.run('r', 1), 1);
         due("begins with 0 again", chosen(y), 110);
-        SelfishJunction z = even(3);
+        SelfishJunction z = Junctions.even(3);
         Check.thrown("rule x", ARGUMENT, () -> z.run('x', 1));
         Check.thrown("rule R", ARGUMENT, () -> z.run('R', 1));
         Check.thrown("most 0", ARGUMENT, () -> z.run('r', 0));
@@ -621,9 +515,9 @@ public final class PromiseTest {
         z.lead(0, true);
         due("who is led is passed over", z.run('r', 9), 1);
         due("who is led stays", z.getChosen(0), 0);
-        due("no rest anywhere", restless().run('r', 200), 200);
-        due("200 at most", restless().run('g', 200), 200);
-        due("z likewise", restless().run('z', 200), 200);
+        due("no rest anywhere", Junctions.restless().run('r', 200), 200);
+        due("200 at most", Junctions.restless().run('g', 200), 200);
+        due("z likewise", Junctions.restless().run('z', 200), 200);
     }
 
     private static SelfishJunction inTurn() {
@@ -664,14 +558,14 @@ public final class PromiseTest {
     }
 
     private static void runByDraws() {
-        SelfishJunction x = even(3);
+        SelfishJunction x = Junctions.even(3);
         // z becomes 48271, and 48271 modulo 3 is 1
         due("until rest", x.run('z', 200), 1);
         due("who changed", chosen(x), 10);
         due("z is drawn once", x.setSeed(1), 48271);
         due("at rest", x.run('z', 200), 0);
         due("z is not drawn at rest", x.setSeed(2), 1);
-        SelfishJunction y = even(3);
+        SelfishJunction y = Junctions.even(3);
         y.setSeed(2);
         // of 96542 modulo 2, since 0 is led and only 1 and 2 are asked
         y.lead(0, true);
@@ -699,21 +593,21 @@ public final class PromiseTest {
         x.addWay(2, 1);
         x.setMind(2, 2);
         Check.thrown("a weight of 3", OPERATION, x::getPotential);
-        SelfishJunction y = braess();
+        SelfishJunction y = Junctions.braess();
         int before = y.getPotential();
         int gain = y.improve(0);
         due("it sinks by the gain", y.getPotential(), before - gain);
     }
 
     private static void countPlays() {
-        SelfishJunction x = mixed();
+        SelfishJunction x = Junctions.mixed();
         due("one without ways counts once", x.countPlays(), 6);
         x.lead(0, true);
         due("who is led", x.countPlays(), 2);
         x.lead(0, false);
         x.close(3, true);
         due("only open ways", x.countPlays(), 4);
-        due("a thousand", thousand().countPlays(), 1000);
+        due("a thousand", Junctions.thousand().countPlays(), 1000);
         SelfishJunction y = new SelfishJunction();
         y.addResource('c', 0, 1);
         y.addResource('c', 0, 1);
@@ -728,7 +622,7 @@ public final class PromiseTest {
     }
 
     private static void rests() {
-        SelfishJunction x = pigou();
+        SelfishJunction x = Junctions.pigou();
         due("three of four", x.countRests(), 3);
         due("the first: 0 then 1", x.restTotal(0), 30);
         due("the second: 1 then 0", x.restTotal(1), 30);
@@ -739,12 +633,12 @@ public final class PromiseTest {
         x.lead(0, true);
         due("one who is led stays on 0", x.countRests(), 1);
         due("that total", x.restTotal(0), 30);
-        due("none", restless().countRests(), 0);
-        Check.thrown("none", ELEMENT, () -> restless().restTotal(0));
+        due("none", Junctions.restless().countRests(), 0);
+        Check.thrown("none", ELEMENT, () -> Junctions.restless().restTotal(0));
     }
 
     private static void goToRest() {
-        SelfishJunction x = pigou();
+        SelfishJunction x = Junctions.pigou();
         due("one changes", x.goToRest(0), 1);
         due("the last one changes first", x.getChosen(0) * 10 + x.getChosen(1), 1);
         due("both change", x.goToRest(1), 2);
@@ -759,11 +653,11 @@ public final class PromiseTest {
     }
 
     private static void leastTotal() {
-        SelfishJunction x = pigou();
+        SelfishJunction x = Junctions.pigou();
         due("the least", x.leastTotal(), 30);
         x.close(1, true);
         due("only open ways", x.leastTotal(), 40);
-        SelfishJunction y = parallel(2, 'c', 0, 20, 'l', 10, 25);
+        SelfishJunction y = Junctions.parallel(2, 'c', 0, 20, 'l', 10, 25);
         y.choose(0, 1);
         due("of any play, not at rest", y.leastTotal(), 40);
         y.lead(0, true);
@@ -772,23 +666,23 @@ public final class PromiseTest {
     }
 
     private static void rings() {
-        due("a ring", restless().hasRing(), true);
-        due("a ring elsewhere", ringElsewhere().hasRing(), true);
-        due("no ring", braess().hasRing(), false);
-        SelfishJunction x = restless();
+        due("a ring", Junctions.restless().hasRing(), true);
+        due("a ring elsewhere", Junctions.ringElsewhere().hasRing(), true);
+        due("no ring", Junctions.braess().hasRing(), false);
+        SelfishJunction x = Junctions.restless();
         x.lead(0, true);
         x.lead(1, true);
         due("who is led goes no rounds", x.hasRing(), false);
     }
 
     private static void longestRun() {
-        due("one change", pigou().longestRun(), 1);
-        due("two changes of five", even(5).longestRun(), 2);
-        SelfishJunction x = pigou();
+        due("one change", Junctions.pigou().longestRun(), 1);
+        due("two changes of five", Junctions.even(5).longestRun(), 2);
+        SelfishJunction x = Junctions.pigou();
         x.goToRest(2);
         due("none at rest", x.longestRun(), 0);
-        Check.thrown("a ring", ARITHMETIC, () -> restless().longestRun());
-        SelfishJunction y = ringElsewhere();
+        Check.thrown("a ring", ARITHMETIC, () -> Junctions.restless().longestRun());
+        SelfishJunction y = Junctions.ringElsewhere();
         due("a ring that is not come to", y.longestRun() >= 0, true);
         // not only changes to best ways: by the steps 3, 2, 1 it takes longer
         SelfishJunction z = new SelfishJunction();
@@ -802,7 +696,7 @@ public final class PromiseTest {
     }
 
     private static void thousandPlays() {
-        SelfishJunction x = thousand();
+        SelfishJunction x = Junctions.thousand();
         due("rests of 1000 plays", x.countRests() > 0, true);
         due("no ring in 1000 plays", x.hasRing(), false);
         due("a run through 1000 plays", x.longestRun() > 0, true);
@@ -829,7 +723,7 @@ public final class PromiseTest {
     }
 
     private static void isStrong() {
-        SelfishJunction x = braess();
+        SelfishJunction x = Junctions.braess();
         for (int p = 0; p < 4; p++) {
             x.choose(p, 2);
         }
@@ -839,8 +733,8 @@ public final class PromiseTest {
         x.lead(1, true);
         x.lead(2, true);
         due("one alone does not", x.isStrong(), true);
-        due("not at rest is not strong", pigou().isStrong(), false);
-        SelfishJunction y = pigou();
+        due("not at rest is not strong", Junctions.pigou().isStrong(), false);
+        SelfishJunction y = Junctions.pigou();
         y.goToRest(0);
         due("one on each", y.isStrong(), true);
         y.goToRest(2);
@@ -849,22 +743,22 @@ public final class PromiseTest {
     }
 
     private static void paradox() {
-        SelfishJunction x = braess();
+        SelfishJunction x = Junctions.braess();
         due("the road whose closing helps", x.paradox(), 4);
         due("nothing is closed", x.close(4, true), false);
         Check.thrown("a closed one is none", ELEMENT, x::paradox);
-        Check.thrown("no rest with it", ELEMENT, () -> restless().paradox());
-        Check.thrown("like totals", ELEMENT, () -> pigou().paradox());
+        Check.thrown("no rest with it", ELEMENT, () -> Junctions.restless().paradox());
+        Check.thrown("like totals", ELEMENT, () -> Junctions.pigou().paradox());
         SelfishJunction y = new SelfishJunction();
         y.addResource('c', 0, 1);
         y.addPlayer(1, 0);
         y.addWay(0, 1);
         Check.thrown("one that cannot be closed", ELEMENT, y::paradox);
-        due("looking changes nothing", braessAfterLook(), braess().checksum());
+        due("looking changes nothing", braessAfterLook(), Junctions.braess().checksum());
     }
 
     private static long braessAfterLook() {
-        SelfishJunction x = braess();
+        SelfishJunction x = Junctions.braess();
         x.paradox();
         return x.checksum();
     }
@@ -927,17 +821,17 @@ public final class PromiseTest {
     }
 
     private static void learnTogether() {
-        SelfishJunction x = even(2);
+        SelfishJunction x = Junctions.even(2);
         due("both go by the costs at the beginning", x.learn(1), 40);
         due("both are on 1", x.getLoad(1), 2);
-        SelfishJunction y = even(2);
+        SelfishJunction y = Junctions.even(2);
         y.lead(0, true);
         y.learn(1);
         due("who is led stays", y.getChosen(0), 0);
         due("but has a regret", y.getRegret(0), 10);
         due("and draws nothing", y.setSeed(1), 48271);
         due("the other goes", y.getChosen(1), 1);
-        SelfishJunction z = even(2);
+        SelfishJunction z = Junctions.even(2);
         z.close(1, true);
         z.learn(5);
         due("closed ways are not regretted", z.getRegret(0), 0);
@@ -966,7 +860,7 @@ public final class PromiseTest {
     }
 
     private static void setSeed() {
-        SelfishJunction x = even(3);
+        SelfishJunction x = Junctions.even(3);
         due("1 at first", x.setSeed(2147483646), 1);
         Check.thrown("z 0", ARGUMENT, () -> x.setSeed(0));
         Check.thrown("z -1", ARGUMENT, () -> x.setSeed(-1));
@@ -1027,21 +921,21 @@ public final class PromiseTest {
     }
 
     private static void quotients() {
-        SelfishJunction x = pigou();
+        SelfishJunction x = Junctions.pigou();
         due("the greatest by the least", x.costOfDisorder(), 40f / 30f);
         due("the least by the least", x.bestCase(), 1.0);
-        SelfishJunction y = braess();
+        SelfishJunction y = Junctions.braess();
         due("the greatest of Braess", y.costOfDisorder(), 360f / 280f);
         due("the least of Braess", y.bestCase(), 300.0 / 280.0);
-        Check.thrown("no rest", ARITHMETIC, () -> restless().costOfDisorder());
-        Check.thrown("no rest", ARITHMETIC, () -> restless().bestCase());
+        Check.thrown("no rest", ARITHMETIC, () -> Junctions.restless().costOfDisorder());
+        Check.thrown("no rest", ARITHMETIC, () -> Junctions.restless().bestCase());
         SelfishJunction z = new SelfishJunction();
         Check.thrown("a least total of 0", ARITHMETIC, z::costOfDisorder);
         Check.thrown("a least total of 0", ARITHMETIC, z::bestCase);
     }
 
     private static void checksum() {
-        SelfishJunction x = mixed();
+        SelfishJunction x = Junctions.mixed();
         due("players, resources, z", x.checksum(), sum(0, 7, 0, 7, -1, 0, 3, 0, 0, 0, 0, 0, 0, 0, 1));
         x.setToll(0, 5);
         x.setSeed(9);
@@ -1050,10 +944,10 @@ public final class PromiseTest {
     }
 
     private static void isSound() {
-        due("mixed", mixed().isSound(), true);
-        due("braess", braess().isSound(), true);
-        due("no rest, but no potential", restless().isSound(), true);
-        SelfishJunction x = braess();
+        due("mixed", Junctions.mixed().isSound(), true);
+        due("braess", Junctions.braess().isSound(), true);
+        due("no rest, but no potential", Junctions.restless().isSound(), true);
+        SelfishJunction x = Junctions.braess();
         x.close(4, true);
         x.learn(20);
         x.lead(2, true);
