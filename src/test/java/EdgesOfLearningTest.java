@@ -17,6 +17,7 @@ public final class EdgesOfLearningTest {
         regretIsNotBelowNothing();
         regretOfOpenWays();
         regretOfANewWay();
+        regretBeyondAllNumbers();
         seedRange();
         seedBefore();
         levelRange();
@@ -209,6 +210,28 @@ public final class EdgesOfLearningTest {
         Edges.due("0 at first", x.getRegret(0), 3);
         x.learn(1);
         Edges.due("then it grows", x.getRegret(0), 7);
+    }
+
+    /** One who is led pays 9 * 9999 more than by the way 1, for eighty times fifty rounds and for seven resources. */
+    private static void regretBeyondAllNumbers() {
+        SelfishJunction x = Junctions.free(8);
+        x.addPlayer(3, 9);
+        x.addWay(0, 127);
+        x.addWay(0, 128);
+        x.lead(0, true);
+        for (int r = 0; r < 7; r++) {
+            x.setToll(r, 9999);
+        }
+        long regret = 0;
+        for (int call = 0; call < 80; call++) {
+            x.learn(50);
+            regret += 50L * 7 * 9 * 9999;
+            Edges.due("the regret by " + call, x.getRegret(0), (int) Math.min(MODULUS, regret));
+        }
+        x.lead(0, false);
+        x.learn(1);
+        Edges.due("it goes all the same", x.getChosen(0), 1);
+        Edges.due("and draws once", x.setSeed(1), 48271);
     }
 
     private static void seedRange() {
