@@ -957,6 +957,7 @@ public final class SelfishJunction {
         final int[] stack;
         final Play shown;
         int count;
+        private int filled;
 
         Survey() {
             sizes = new int[MOST_PLAYERS];
@@ -1016,7 +1017,8 @@ public final class SelfishJunction {
         }
 
         void fill(Board board) {
-            for (int play = 0; play < count && play < MOST_PLAYS; play++) {
+            filled = Math.min(count, MOST_PLAYS);
+            for (int play = 0; play < filled; play++) {
                 show(board, play);
                 totals[play] = board.totalOf(shown);
                 moves[play] = board.movesOf(shown);
@@ -1039,7 +1041,7 @@ public final class SelfishJunction {
 
         int countAtRest() {
             int many = 0;
-            for (int play = 0; play < count; play++) {
+            for (int play = 0; play < filled; play++) {
                 if (isAtRest(play)) {
                     many++;
                 }
@@ -1050,7 +1052,7 @@ public final class SelfishJunction {
         /** The play that is at rest with so many at rest before it, -1 if there is none. */
         int restAt(int index) {
             int before = 0;
-            for (int play = 0; play < count; play++) {
+            for (int play = 0; play < filled; play++) {
                 if (isAtRest(play)) {
                     if (before == index) {
                         return play;
@@ -1064,7 +1066,7 @@ public final class SelfishJunction {
         /** The least total of any play, or only of those at rest; -1 if there is none. */
         int leastOf(boolean onlyAtRest) {
             int least = -1;
-            for (int play = 0; play < count; play++) {
+            for (int play = 0; play < filled; play++) {
                 if ((!onlyAtRest || isAtRest(play)) && (least < 0 || totals[play] < least)) {
                     least = totals[play];
                 }
@@ -1075,7 +1077,7 @@ public final class SelfishJunction {
         /** The greatest total of a play at rest, -1 if there is none. */
         int greatestRest() {
             int greatest = -1;
-            for (int play = 0; play < count; play++) {
+            for (int play = 0; play < filled; play++) {
                 if (isAtRest(play)) {
                     greatest = Math.max(greatest, totals[play]);
                 }
@@ -1085,7 +1087,7 @@ public final class SelfishJunction {
 
         boolean anyRing() {
             forget();
-            for (int play = 0; play < count; play++) {
+            for (int play = 0; play < filled; play++) {
                 if (marks[play] == UNSEEN && meetsRing(play)) {
                     return true;
                 }
@@ -1100,7 +1102,7 @@ public final class SelfishJunction {
         }
 
         private void forget() {
-            for (int play = 0; play < count; play++) {
+            for (int play = 0; play < filled; play++) {
                 marks[play] = UNSEEN;
             }
         }
